@@ -22,7 +22,8 @@ public final class TwinTables {
     /** By p: what VALUES are cut by before they are ALIKE to p places. */
     private static final int[] CUTS = {10000, 1000, 100, 10, 1};
 
-    private static final int MISSING = -1, FLOATS = 0, SHORTS = 1;
+    /** Sorts of a SHEET; that between them, 0, is of floats. */
+    private static final int MISSING = -1, SHORTS = 1;
     private static final int NO_THING = 0, A_FIGURE = 1, A_SHEET = 2, A_NUMBER = 3;
 
     private final State now = new State();
@@ -456,7 +457,7 @@ public final class TwinTables {
         return v >= least && v <= most;
     }
 
-    private static int held(int v, int least, int most) {
+    private static int holdWithin(int v, int least, int most) {
         return v < least ? least : v > most ? most : v;
     }
 
@@ -558,7 +559,7 @@ public final class TwinTables {
 
         int spreadFor(int pairs, int year) {
             int text = texts.latest(SPREAD, 0);
-            if (text != NONE) return held(texts.give(text, pairs, year, 0), 0, MOST_VALUE);
+            if (text != NONE) return holdWithin(texts.give(text, pairs, year, 0), 0, MOST_VALUE);
             return pairs > 0 ? 10000 / pairs : 0;
         }
 
@@ -662,7 +663,7 @@ public final class TwinTables {
         void drawLand(int tables, int pairs) {
             int spread = spreadFor(pairs, 0);
             int wide = Math.max(2 * spread + 1, 1);
-            for (int k = 0; k < tables && k < ROW; k++) row[k] = held(base - spread + draw() % wide, 0, MOST_VALUE);
+            for (int k = 0; k < tables && k < ROW; k++) row[k] = holdWithin(base - spread + draw() % wide, 0, MOST_VALUE);
         }
     }
 

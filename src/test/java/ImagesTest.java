@@ -31,7 +31,7 @@ public final class ImagesTest {
 
     private static void counts() {
         TwinTables x = Due.withTables(3);
-        x.figure(0, 1, 7700, 10, -1);
+        x.figure(0, 6, 7700, 10, -1);
         x.figure(0, 4, 7700, 10, -1);
         x.figure(0, 6, 7700, 10, -1);
         x.figure(0, 7, 7700, 10, 0);
@@ -45,7 +45,7 @@ public final class ImagesTest {
         for (int k = 0; k < 6; k++) x.tell(k);
         x.feed(0, 0, 0);
         x.seed(77);
-        int[] want = {3, 5, 3, 3, 1, 2, 1, 4, 5, 6, 12, 77};
+        int[] want = {3, 5, 3, 4, 1, 2, 1, 4, 5, 6, 12, 77};
         for (int what = 0; what < 12; what++) due.is("count " + what, x.count(what), want[what]);
         due.is("count", x.count(-1), Due.BAD);
         due.is("count", x.count(12), Due.BAD);
@@ -112,6 +112,8 @@ public final class ImagesTest {
         x.source(1);
         x.back();
         due.is("as it was again", before.equals(Caller.kept(x)) ? 1 : 0, 1);
+        due.is("the one that was told", x.choose(2), Due.NO);
+        due.is("one that was not", x.choose(4), 2);
     }
 
     private static void randomImages(Random random) {

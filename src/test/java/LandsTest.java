@@ -11,6 +11,7 @@ public final class LandsTest {
         wrongShares();
         checks();
         imageCounts();
+        checksAtTheEdges();
         for (int seed = 0; seed < 400; seed++) randomLands(new Random(seed));
         due.end();
     }
@@ -144,6 +145,17 @@ public final class LandsTest {
         due.is("z stays", x.count(11), 7);
         x.back();
         due.is("z of the image", x.count(11), 99);
+    }
+
+    private static void checksAtTheEdges() {
+        for (int base : new int[] {0, 20, 9980, 9999}) {
+            TwinTables x = new TwinTables();
+            x.base(base);
+            x.keep();
+            z = 1;
+            tellAll(x, land(12, base, 100), 12);
+            due.is("held, base " + base, x.check(12, 100), 0);
+        }
     }
 
     private static void randomLands(Random random) {

@@ -68,6 +68,7 @@ public final class LeaningTest {
         due.is("source", x.source(-1), Due.BAD);
         due.is("source", x.source(65536), Due.BAD);
         due.is("source", x.source(0), 0);
+        due.is("all could be left", x.next(255), 0);
         due.is("source", x.source(0b11_10_01_00_11_10_01_00), 1);
         due.is("source", x.source(0b01_01_01_01_00_00_00_00), 2);
         due.is("source", x.source(65535), 3);

@@ -37,10 +37,11 @@ public final class SheetsTest {
         due.is("n", x.sheet(0, 0, 24), 24);
         due.is("n", x.sheet(1, 1, 0), 0);
         due.is("none", x.mark(1, 0, 0), Due.INDEX);
+        x.mark(0, 0, 6);
         x.mark(0, 23, 5);
         due.is("marked", at(x, 0, 23), 5);
         due.is("anew", x.sheet(0, 0, 24), 24);
-        due.is("all 0", at(x, 0, 23), 0);
+        for (int k = 0; k < 24; k++) due.is("all 0", at(x, 0, k), 0);
         x.mark(0, 23, 5);
         due.is("refused", x.sheet(0, 0, -1), Due.SIZE);
         due.is("as it was", at(x, 0, 23), 5);

@@ -37,6 +37,9 @@ public final class TablesTest {
     }
 
     private static void tables() {
+        TwinTables second = new TwinTables();
+        due.is("the first", second.table(5), 0);
+        due.is("ahead of the first", second.table(4), Due.NO);
         TwinTables x = new TwinTables();
         due.is("table(-1)", x.table(-1), Due.BAD);
         due.is("table(60)", x.table(60), Due.BAD);
@@ -94,6 +97,16 @@ public final class TablesTest {
             x.turns(1, kind);
             due.is("price of " + kind, x.told(1, 6), prices[kind]);
         }
+        int[][] fitted = {{1, 20}, {99, 20}, {100, 21}, {199, 21}, {200, 22}, {999, 29}};
+        for (int[] each : fitted) {
+            TwinTables y = Due.withTables(1);
+            y.figure(0, 7, 5, each[0], -1);
+            due.is("price of fitted, of pairs " + each[0], y.told(0, 6), each[1]);
+        }
+        TwinTables ahead = Due.withTables(1);
+        for (int k = 0; k < 4; k++) ahead.figure(0, 1, 5, 5, k - 1);
+        Due.text(ahead, "working 0 i*9000+f");
+        for (int k = 0; k < 4; k++) due.is("ahead of " + k, ahead.told(k, 8), k * 9000 + (k > 0 ? 5 : 0));
         Due.text(x, "working 1 i*1000+n");
         x.figure(0, 1, 1, 7, -1);
         x.figure(1, 1, 1, 7, -1);
@@ -127,6 +140,8 @@ public final class TablesTest {
         due.is("measured, past", fitting(null, 7801, false), always);
         due.is("measured, past", fitting(null, 7599, false), always);
         due.is("worked, rounded", fitting("working 0 5000", 5000, false), always | 4 | 8);
+        due.is("not worked", fitting("working 0 5000", 5001, false), always | 8);
+        due.is("not worked", fitting("working 0 5000", 4999, false), always | 8);
         due.is("rounded, edge", fitting("working 0 5000", 5050, false), always | 8);
         due.is("rounded, edge", fitting("working 0 5000", 4950, false), always | 8);
         due.is("rounded, past", fitting("working 0 5000", 5051, false), always);
@@ -141,6 +156,14 @@ public final class TablesTest {
         due.is("two digits", fitting(null, 6600, true), always | 128);
         due.is("odd", fitting(null, 6601, true), always);
         due.is("a carry is two digits", fitting(null, 7699, true), always | 2);
+        TwinTables x = Due.withTables(1);
+        x.figure(0, 0, 0, 100, -1);
+        x.figure(0, 5, 8000, 100, 0);
+        x.figure(0, 7, 8000, 100, 0);
+        x.figure(0, 4, 0, 100, 0);
+        x.figure(0, 4, 0, 100, -1);
+        int[] want = {1, 1, 1, 1, 0};
+        for (int k = 0; k < 5; k++) due.is("from one of 0, " + k, x.told(k, 5), want[k]);
     }
 
     private static void kinds() {

@@ -7,6 +7,7 @@ public final class TextsTest {
     public static void main(String[] args) {
         tape();
         faults();
+        oneBehindTheOther();
         full();
         ofAndWhy();
         spreads();
@@ -55,6 +56,11 @@ public final class TextsTest {
         fault("   ", 3);
         fault("workings 1 n", 0);
         fault(" oddc", 1);
+        fault("oddz", 0);
+        fault("oda c", 0);
+        fault("xdd c", 0);
+        fault("apread 5", 0);
+        fault("odd z", 4);
         fault("odd", 3);
         fault("odd  ", 5);
         fault("odd(c)", -1);
@@ -119,6 +125,22 @@ public final class TextsTest {
         fault("1 odd c", 0);
         fault("odd c + d 5", 10);
         fault("odd c & & d", 8);
+    }
+
+    /** What one reading leaves behind does not reach the next one. */
+    private static void oneBehindTheOther() {
+        TwinTables x = Due.withTables(1);
+        x.figure(0, 1, 5, 5, -1);
+        due.is("ends in a word", Due.text(x, "odd n"), -104);
+        due.is("right behind it", Due.text(x, "odd c"), 0);
+        due.is("ends in digits", Due.text(x, "working 12 n"), -108);
+        due.is("right behind it", Due.text(x, "working 0 1"), 1);
+        for (int k = 2; k < 14; k++) {
+            due.is("long", Due.text(x, "working 0 " + "1+".repeat(42) + k), k);
+            due.is("long gives", x.told(0, 8), 42 + k);
+            due.is("long has", x.of(k, 2), 43);
+            Due.text(x, "working 0 n*n*n*n*n*n*n*n*(");
+        }
     }
 
     private static void full() {
