@@ -1,3 +1,5 @@
+import java.util.Map;
+
 /** Counts the calls whose answer is not the one that is due, and ends a test. */
 final class Due {
     static final int BAD = TwinTables.BAD, NO = TwinTables.NO, FULL = TwinTables.FULL, NONE = TwinTables.NONE;
@@ -10,6 +12,30 @@ final class Due {
         if (got == want) return;
         wrong++;
         if (wrong <= 40) System.out.println(call + " answered " + got + ", due is " + want);
+    }
+
+    /** On one new object behind a run: calls and the answer that is due to each, by turns. */
+    void says(String sentence, Run run, Object... told) {
+        Run longer = run;
+        for (int k = 0; k + 1 < told.length; k += 2) {
+            longer = longer.then((String) told[k]);
+            is(sentence + " | " + told[k], longer.last(), (Integer) told[k + 1]);
+        }
+    }
+
+    /** Each of the calls is refused behind a run, and all is the same behind it but for the parts named (see Probes). */
+    void refuses(String sentence, Run run, int want, String[] but, String... told) {
+        Map<String, int[]> before = Probes.behind(run, but);
+        for (String call : told) {
+            Run longer = run.then(call);
+            is(sentence + " | " + call, longer.last(), want);
+            String changed = Probes.difference(before, Probes.behind(longer, but));
+            is(sentence + " | " + call + " changed: " + changed, changed.length(), 0);
+        }
+    }
+
+    void refuses(String sentence, Run run, int want, String... told) {
+        refuses(sentence, run, want, new String[0], told);
     }
 
     void end() {
@@ -28,7 +54,7 @@ final class Due {
         return x.text();
     }
 
-    private static int four(String s, int from) {
+    static int four(String s, int from) {
         int four = 0;
         for (int k = from; k < from + 4; k++) four = four << 8 | (k < s.length() ? s.charAt(k) & 255 : 0);
         return four;
