@@ -14,8 +14,14 @@ final class Due {
         if (wrong <= 40) System.out.println(call + " answered " + got + ", due is " + want);
     }
 
-    /** On one new object behind a run: calls and the answer that is due to each, by turns. */
+    /** A sentence that a test holds is one of the document's. */
+    void quoted(String sentence) {
+        is("the document says: " + sentence, Document.says(sentence) ? 1 : 0, 1);
+    }
+
+    /** A sentence of the document, on one new object behind a run: calls and the answer that is due to each, by turns. */
     void says(String sentence, Run run, Object... told) {
+        quoted(sentence);
         Run longer = run;
         for (int k = 0; k + 1 < told.length; k += 2) {
             longer = longer.then((String) told[k]);
@@ -25,6 +31,7 @@ final class Due {
 
     /** Each of the calls is refused behind a run, and all is the same behind it but for the parts named (see Probes). */
     void refuses(String sentence, Run run, int want, String[] but, String... told) {
+        quoted(sentence);
         Map<String, int[]> before = Probes.behind(run, but);
         for (String call : told) {
             Run longer = run.then(call);
