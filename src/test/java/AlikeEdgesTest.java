@@ -45,6 +45,9 @@ public final class AlikeEdgesTest {
     private static void lines() {
         due.says("LINES 0 .. 5 are rows of FIGURES", SOME, "line 5 3", 1, "told 3 9", 5, "told 0 9", 0, "told 4 9", NONE, "line 0 4", 3);
         due.refuses("LINES 0 .. 5 are rows of FIGURES", SOME, BAD, "line -1 3", "line 6 3", "line MIN 3", "line MAX 3");
+        String order = "LINES 0 .. 5 are rows of FIGURES (by the order told, 12 at most each";
+        due.says(order, SOME.then("line 3 2", "line 3 3"), "run 3 1 1", 2, "run 3 2 0", 2);
+        due.says(order, new Run("table 1", "table 2", "figure 1 1 7 9 -1", "figure 0 1 7 9 -1"), "line 3 1", 1, "line 3 0", 2, "run 3 4 1", 1);
         due.refuses("one in one LINE at most", SOME, NO, "line 0 1", "line 1 1", "line 5 0");
         due.refuses("each of a later TABLE than the one ahead", SOME, NO, "line 0 2");
         due.refuses("each of a later TABLE than the one ahead", SOME.then("line 1 3"), NO, "line 1 2", "line 1 4");
@@ -53,10 +56,10 @@ public final class AlikeEdgesTest {
         Run twelve = row(20, 1, 2, 3, 4, 5, 6, 7, 8, 9, 10, 11, 12).then("figure 11 1 5 5 -1");
         due.says(most, twelve, "run 3 1 0", 12, "told 11 9", 3);
         due.refuses(most, twelve, NO, "line 3 12"); // no TABLE is later than the twelfth: NO stands ahead of FULL
-        String order = "A FIGURE comes to the end of a LINE: how many it has. BAD: line, figure; NO: it is in a LINE, or not of a later TABLE; FULL.";
-        due.says(order, SOME, "line 0 3", 3, "line 1 2", 1, "line 1 4", 2);
-        due.refuses(order, SOME, BAD, "line 0 -1", "line 0 5", "line 0 MIN", "line 0 MAX", "line 6 0", "line 6 5");
-        due.refuses(order, NEW, BAD, "line 0 0");
+        String comes = "A FIGURE comes to the end of a LINE: how many it has. BAD: line, figure; NO: it is in a LINE, or not of a later TABLE; FULL.";
+        due.says(comes, SOME, "line 0 3", 3, "line 1 2", 1, "line 1 4", 2);
+        due.refuses(comes, SOME, BAD, "line 0 -1", "line 0 5", "line 0 MIN", "line 0 MAX", "line 6 0", "line 6 5");
+        due.refuses(comes, NEW, BAD, "line 0 0");
     }
 
     private static void runs() {
@@ -66,6 +69,7 @@ public final class AlikeEdgesTest {
         due.says(longest, row(20, 10, 20, 30), "run 3 3 0", 1, "run 3 3 1", 0);
         due.says(longest, row(20, 10, 20, 21), "run 3 3 0", 2, "run 3 3 1", 1);
         due.says(longest, row(20, 10, 20, 11), "run 3 3 0", 1, "run 3 3 1", 0);
+        due.says(longest, row(20, 5, 5, 5).then("figure 0 1 5 5 -1", "line 0 3"), "run 3 4 0", 3, "run 0 4 0", 1, "run 1 4 0", 0); // a longer LINE looked at ahead
         String whats = "what 0 how many, 1 its first FIGURE (NONE: the LINE is empty), 2 ODDS (1 of a RUN of 1 or 0). BAD.";
         due.says(whats, NEW, "run 0 1 0", 0, "run 0 1 1", NONE, "run 0 1 2", 1, "run 5 4 0", 0, "run 5 4 1", NONE, "run 5 4 2", 1);
         due.says(whats, row(20, 7000), "run 3 4 0", 1, "run 3 4 1", 0, "run 3 4 2", 1);
@@ -95,6 +99,7 @@ public final class AlikeEdgesTest {
         due.says(soon, new Run("table 59", "table 59", "figure 0 1 5 5 -1", "figure 1 1 5 5 -1", "line 0 0", "line 0 1"), "soon 2 4", 59);
         due.says(soon, row(20, 10, 10, 10).then("figure 0 1 9 9 -1", "figure 2 1 9 9 -1", "line 0 3", "line 0 4"), "soon 2 4", 2);
         due.says(soon, row(20, 10, 20, 20).then("figure 0 1 9 9 -1", "figure 1 1 9 9 -1", "line 5 3", "line 5 4"), "soon 2 4", 2);
+        due.says(soon, row(20, 10, 10, 10).then("figure 0 1 9 9 -1", "figure 2 1 9 9 -1", "line 5 3", "line 5 4"), "soon 2 4", 2);
         String of = "SOON for RUNS of k (2 .. 12) to p places. BAD; NONE.";
         Run twelve = row(20, 5, 5, 5, 5, 5, 5, 5, 5, 5, 5, 5, 5);
         due.says(of, twelve, "soon 2 4", 2, "soon 11 4", 11, "soon 12 4", 12);
@@ -155,6 +160,8 @@ public final class AlikeEdgesTest {
         due.says(fit, new Run("table 1", "figure 0 0 1000 5 -1", "text spread 5", "text working 0 1000", "choose 0"), "story 0 2", 2, "story 0 0", 3);
         due.says(fit, new Run("table 1", "figure 0 0 1000 5 -1", "text spread 5", "text working 0 1050", "choose 0"), "story 0 2", 3, "story 0 0", 4);
         String least = "that with the least PRICES together; of several that with the fewest UNKIND ones, then the first (by the order told, the lesser KIND first).";
+        due.says(least, new Run("table 1", "figure 0 0 7700 5 -1", "text working 0 7700", "figure 0 0 7700 5 0", "choose 1", "choose 0"),
+            "story 0 0", 2, "story 0 2", 1, "story 0 3", 1, "base 0", 7700, "text spread 0", 1, "story 0 0", 5, "story 0 2", 4, "story 0 3", 2);
         Run fitted = new Run("table 1", "text spread 5", "figure 0 0 1000 5 -1", "figure 0 7 3332 99 0", "figure 0 7 3332 100 0");
         due.says(least, fitted.then("choose 1", "choose 2"), "story 2 0", 40, "story 2 1", 2, "story 2 2", 6, "story 2 3", 6);
         due.says(least, new Run("table 1", "figure 0 7 7700 5 -1", "figure 0 7 7700 5 0", "text working 0 7700", "choose 1"), "story 6 0", 1, "story 6 1", 0, "story 6 2", 1);

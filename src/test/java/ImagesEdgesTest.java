@@ -38,6 +38,7 @@ public final class ImagesEdgesTest {
 
     /** Whatever is changed behind keep, back makes all as it was, and again behind other changes. */
     private static void again() {
+        due.says("All is as THE IMAGE: the number of FIGURES.", World.some(true).run, "count 1", 10, "back", 9, "count 1", 9, "back", 9, "told 7 1", 0, "count 11", 77);
         String all = "all can become as it is (again and again).";
         due.quoted(all);
         for (World w : new World[] {World.empty(), World.some(true), World.some(false)}) {
@@ -51,6 +52,7 @@ public final class ImagesEdgesTest {
             Run twice = kept.then(MORE).then("back").then(MORE).then("back");
             same(all + " | " + w.name, kept, twice, Probes.TAPE);
         }
+        due.says(all, World.some(true).run.then("clear", "choose 3", "choose 4", "back"), "choose 6", NO, "choose 2", NO, "choose 3", 3);
         due.says(all, new Run("seed 3", "keep", "seed 4", "keep", "seed 5"), "back", 0, "count 11", 4); // the latest one alone
     }
 

@@ -84,6 +84,7 @@ public final class LandsEdgesTest {
             due.says(check, told, "check " + k + " 20", 0);
             due.says(check, told.then("tell 7"), "check " + k + " 20", 1 + k);
             due.says(check, told.times(60 - k, "tell 7"), "check " + k + " 20", 1 + k);
+            due.says(check, telling(told.then("check " + k + " 20"), values[0]), "check " + k + " 20", 2); // those that waited ahead are gone
             Run longer = kept;
             for (int many = 0; many < k; many++) {
                 due.says(check, longer, "check " + k + " 20", 1 + many);

@@ -91,16 +91,21 @@ public final class LifeEdgesTest {
         due.says(before, LIFE, "could 1 103 1", 1, "could 1 102 1", 0, "could 2 107 1", 1, "could 2 106 1", 0, "could 0 100 1", 1, "could 0 101 1", 1, "could 1 100 1", 0);
         due.says(before, LIFE.then("diary 104 1"), "could 2 107 1", 0, "could 2 108 1", 1, "could 0 104 1", 0); // the latest entry, not an earlier one
         due.says(before, LIFE.then("diary 90 1"), "could 1 102 1", 0, "could 1 103 1", 1); // by days, not by the order of writing
+        due.says(before, new Run("road 0 1 3", "diary 60 0", "diary 50 1", "diary 40 0", "diary 70 1", "diary 55 1"), "could 1 62 1", 0, "could 1 63 1", 1, "could 0 57 1", 0, "could 0 58 1", 1);
         due.says(before, LIFE, "could 3 150 1", 0, "could 4 150 1", 0); // no ROAD there
         String behind = "and from its last DAY to the next entry behind that likewise";
         due.says(behind, LIFE, "could 1 150 47", 1, "could 1 150 48", 0, "could 0 150 44", 1, "could 0 150 45", 0, "could 2 150 99", 1);
         due.says(behind, LIFE.then("diary 190 1"), "could 0 150 38", 1, "could 0 150 39", 0); // the next entry, not a later one
+        Run mixed = new Run("road 0 1 3", "diary 60 0", "diary 50 1", "diary 70 1", "diary 65 0", "diary 90 1", "diary 80 0");
+        due.says(behind, mixed, "could 1 51 7", 1, "could 1 51 8", 0, "could 0 53 7", 1, "could 0 65 3", 1, "could 0 65 4", 0, "could 1 70 8", 1, "could 1 70 7", 1, "could 1 70 9", 0);
+        due.says(behind, mixed, "could 0 83 5", 1, "could 0 83 6", 0, "could 1 90 99", 1, "could 0 80 8", 1, "could 0 60 1", 1, "could 1 50 1", 1);
         due.says(behind, ROADS.then("diary 200 3"), "could 0 150 1", 0, "could 3 150 1", 1);
         due.says(behind, ROADS.then("diary 9999 2"), "could 0 9900 93", 1, "could 0 9900 94", 0, "could 0 9999 1", 0, "could 2 9999 99", 1);
         due.says(behind, LIFE.then("road 0 1 0"), "could 0 150 1", 0, "could 1 150 1", 0, "could 2 200 1", 1);
     }
 
     private static void leaners() {
+        due.says("One more LEANER: its number.", LEANERS, "leaner 0 0 0", 3, "leaner 0 0 0", 4, "count 7", 5);
         due.says("LEANERS, 16 at most, numbered from 0", new Run("table 1").times(14, "leaner 1 0 1"), "leaner 1 16383 1", 14, "leaner 0 32767 28", 15, "count 7", 16);
         due.refuses("LEANERS, 16 at most", FULL_OF_LEANERS, FULL, "leaner 0 0 0", "leaner 1 65535 28");
         String leans = "LEAN on TABLES (bits) and on LEANERS with lesser numbers (bits), NEEDS n of all these at least (0 and more).";
@@ -156,7 +161,16 @@ public final class LifeEdgesTest {
     }
 
     private static void next() {
+        String each = "tell of each of 8 TALES (0 .. 7) 0 .. 3";
+        for (int tale = 0; tale < 8; tale++) {
+            for (int tells = 0; tells < 4; tells++) {
+                for (int answer = 0; answer < 4; answer++) {
+                    due.says(each, new Run("source " + (tells << 2 * tale)), "heard " + (1 << tale) + " 0 " + answer, answer == tells ? 1 << tale : 0);
+                }
+            }
+        }
         String next = "the one by which most of these could be left is the fewest; of several the least.";
+        due.says(next, new Run("source 0"), "next 255", 0, "next 128", 0);
         due.says(next, SOURCES, "next 15", 0, "next 255", 0, "next 1", 0, "next 128", 0);
         due.says(next, new Run("source 0", "source 1", "source 5", "source 20"), "next 3", 1, "next 6", 2, "next 4", 0, "next 7", 1);
         due.says(next, new Run("source 65535", "source 49152"), "next 255", 1, "next 128", 0, "next 192", 1);
@@ -172,6 +186,8 @@ public final class LifeEdgesTest {
         due.refuses(heard, SOURCES, BAD, "heard -1 0 0", "heard 256 0 0", "heard MIN 0 0", "heard MAX 0 0", "heard 1 -1 0", "heard 1 3 0", "heard 1 MIN 0", "heard 1 MAX 0",
             "heard 1 0 -1", "heard 1 0 4", "heard 1 0 MIN", "heard 1 0 MAX");
         due.refuses(heard, NEW, BAD, "heard 0 0 0");
+        String left = "LEFT by answers: TALES of a set of which told SOURCES tell what was heard.";
+        due.says(left, new Run("source 27", "source 85"), "heard 255 0 0", 248, "heard 248 1 1", 8, "heard 248 1 0", 240, "heard 240 0 3", 0, "heard 0 1 0", 0);
         due.refuses(heard, FULL_OF_SOURCES, BAD, "heard 0 8 0");
     }
 }

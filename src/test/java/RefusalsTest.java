@@ -16,6 +16,8 @@ public final class RefusalsTest {
     private static final int GROUP = 120;
 
     public static void main(String[] args) {
+        due.quoted("A call that is refused answers one of BAD, NO, FULL, or a FINDING, of several the one that stands first with it, and changes nothing"
+            + " (but the tape and the numbers that wait, where told).");
         for (World w : World.all()) {
             facts(w);
             for (String name : Caller.NAMES) {

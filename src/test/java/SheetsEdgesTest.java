@@ -17,6 +17,7 @@ public final class SheetsEdgesTest {
         fullPrints();
         copies();
         refusedCopies();
+        findings();
         lays();
         heldForGood();
         asks();
@@ -44,6 +45,8 @@ public final class SheetsEdgesTest {
     }
 
     private static void marks() {
+        due.says("A place of floats may be NO NUMBER.", SHEETS, "mark 0 0 NONE", 1, "mark 0 3 NONE", 1, "lay 0 2 0", 0, "item 0 0", KIND, "item 0 3", KIND, "mark 0 0 1", 1, "lay 0 2 0", 2, "item 0 0", 1);
+        due.says("A place of a SHEET becomes v", SHEETS, "mark 0 0 8", 1, "mark 1 2 8", 1, "lay 0 2 0", 0, "item 0 0", 8, "item 0 2", 9, "lay 0 2 1", 2, "item 0 2", 8, "item 0 1", 2);
         String shorts = "of shorts its lowest 16 bits";
         due.says(shorts, SHEETS, "mark 1 0 32767", 1, "mark 1 1 32768", 1, "mark 1 2 -1", 1, "lay 0 2 1", 0, "item 0 0", 32767, "item 0 1", -32768, "item 0 2", -1);
         due.says(shorts, SHEETS, "mark 1 0 65535", 1, "mark 1 1 65536", 1, "mark 1 2 70000", 1, "lay 0 2 1", 0, "item 0 0", -1, "item 0 1", 0, "item 0 2", 4464);
@@ -96,9 +99,19 @@ public final class SheetsEdgesTest {
         due.says(come, SHEETS, "copy 0 0 0 1 3", 3, "lay 0 2 0", 0, "item 0 0", 7, "item 0 1", 7, "item 0 2", KIND, "item 0 3", 9);
         due.says(come, SHEETS, "copy 0 1 0 0 3", 3, "lay 0 2 0", 0, "item 0 0", KIND, "item 0 1", 9, "item 0 2", 10, "item 0 3", 10);
         due.says(come, SHEETS.then("sheet 3 0 6"), "copy 0 0 3 2 4", 4, "lay 0 2 3", 0, "item 0 1", 0, "item 0 2", 7, "item 0 3", KIND, "item 0 5", 10);
+        due.says("(From a SHEET, its place, to a SHEET, its place.)", SHEETS.then("sheet 3 0 6"), "copy 0 3 3 5 1", 1, "lay 0 2 3", 0, "item 0 5", 10, "item 0 3", 0, "lay 0 2 0", 2, "item 0 3", 10);
         due.says(come, SHEETS.then("sheet 3 1 3"), "copy 1 2 3 0 1", 1, "lay 0 2 3", 0, "item 0 0", 3, "item 0 1", 0);
         due.says(come, SHEETS, "copy 0 0 0 0 4", 4, "copy 0 0 0 0 0", 0, "copy 0 4 0 4 0", 0, "copy 2 0 2 0 0", 0, "copy 0 4 2 0 0", 0, "lay 0 2 0", 0, "item 0 0", 7, "item 0 3", 10);
         due.says(come, SHEETS.then("sheet 0 0 24", "mark 0 23 5"), "copy 0 23 0 0 1", 1, "copy 0 0 0 0 24", 24, "lay 0 2 0", 0, "item 0 0", 5);
+    }
+
+    private static void findings() {
+        String nothing = "NOTHING: a SHEET is MISSING, a SLOT holds nothing";
+        due.refuses(nothing, SLOTS, NOTHING, "mark 3 0 0", "print 0 3 5", "copy 3 0 3 0 0", "lay 0 2 3", "ask 0 0", "item 0 0", "rest 0 1");
+        due.refuses(nothing, SLOTS.then("sheet 0 -1 0", "lay 1 0 0"), NOTHING, "mark 0 0 0", "print 0 0 5", "copy 0 0 0 0 0", "lay 0 2 0", "ask 1 0", "item 1 0", "rest 1 1");
+        due.refuses("INDEX: there is no such place", SLOTS, INDEX, "mark 0 4 0", "mark 2 0 0", "copy 0 4 0 0 1", "item 2 4", "item 4 3");
+        String kind = "KIND: it is none (of a KIND, a number, or another thing).";
+        due.refuses(kind, SLOTS, KIND, "as 0 1", "mark 1 0 NONE", "copy 0 0 1 0 1", "ask 1 1", "ask 2 0", "item 3 0", "item 2 1", "rest 1 1");
     }
 
     private static void refusedCopies() {

@@ -39,6 +39,7 @@ public final class TablesEdgesTest {
         due.says("each of a YEAR 0 .. 59", NEW, "table 0", 0, "table 59", 1, "figure 0 0 0 1 -1", 0, "figure 1 0 0 1 -1", 1, "told 0 10", 0, "told 1 10", 59);
         due.refuses("each of a YEAR 0 .. 59", NEW, BAD, "table -1", "table 60", "table MIN", "table MAX");
         due.says("not ahead of that of the one ahead", new Run("table 30"), "table 30", 1, "table 31", 2, "table 31", 3);
+        due.refuses("not ahead of that of the one ahead", new Run("table 30"), NO, "table 29", "table 0");
         due.refuses("not ahead of that of the one ahead", new Run("table 30", "table 31"), NO, "table 30", "table 0");
         String order = "BAD: year; NO: it is ahead of the latest one's; FULL.";
         due.refuses(order, new Run("table 30"), BAD, "table -1");
@@ -142,6 +143,11 @@ public final class TablesEdgesTest {
     }
 
     private static void kinds() {
+        String under = "1 MEASURED, 2 WORKED, 4 CARRIED, 5 SLIPPED, 6 MADE, under FIGURE; 3 ROUNDED, under WORKED; 7 FITTED, under MADE (all are FIGURES).";
+        int[] over = {1, 3, 5, 13, 17, 33, 65, 193};
+        for (int kind = 0; kind < 8; kind++) {
+            for (int other = 0; other < 8; other++) due.says(under, ONE.then("figure 0 " + kind + " 9 9 -1"), "as 0 " + other, (over[kind] >> other & 1) == 1 ? 9 : KIND);
+        }
         String as = "A FIGURE as one of a KIND: its VALUE. BAD: figure, kind; KIND: it is not of that KIND, nor of one under it.";
         due.says(as, SOME, "as 1 0", 7001, "as 1 2", 7001, "as 1 3", 7001, "as 2 0", 7002, "as 2 6", 7002, "as 2 7", 7002, "as 3 6", 7003);
         due.refuses(as, SOME, KIND, "as 0 2", "as 0 7", "as 1 1", "as 1 4", "as 2 5", "as 2 1", "as 3 7", "as 3 1");

@@ -89,7 +89,10 @@ public final class TextsEdgesTest {
         fault(head, "odds c", 0);
         fault(head, "od c", 0);
         fault(head, "Odd c", 0);
+        fault(head, "xdd c", 0);
         fault(head, "5", 0);
+        fault(head, "5 + +", 0);
+        fault(head, "(5 (", 0);
         fault(head, "odd odd c", 4);
         fault(head, "working 1 1 n", 12);
         due.says(head, FIGURES, "text working 11 7", 0, "of 0 1", 11, "told 0 8", NONE, "text working 0 7", 1, "told 0 8", 7);
@@ -172,6 +175,7 @@ public final class TextsEdgesTest {
         gives(loosest, "2&3=3", 1);
         gives(loosest, "!0+5", 6);
         gives(loosest, "!(0+5)", 0);
+        gives(loosest, "7-!0", 6);
     }
 
     private static void openOnes() {
@@ -242,6 +246,8 @@ public final class TextsEdgesTest {
         gives(truth, "0&5/0", 0);
         gives(truth, "4<5", 1);
         gives(truth, "5<5", 0);
+        gives(truth, "5<4", 0);
+        gives(truth, "4>5", 0);
         gives(truth, "5>5", 0);
         gives(truth, "5>4", 1);
         gives(truth, "5=5", 1);
